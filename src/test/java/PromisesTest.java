@@ -54,6 +54,8 @@ public final class PromisesTest {
         promise38Undo();
         promise39Snapshot();
         promise40Restore();
+        slotsThatAreUsedAgain();
+        longPasts();
         Check.end("PromisesTest");
     }
 
@@ -366,7 +368,10 @@ public final class PromisesTest {
         x.tellEnding(0, 0, false, 'e' - 'a');
         x.tellEnding(0, 2, false, 'e' - 'a');
         Check.due("couldBe all cases", x.couldBe(0), 15);
-        for (int bad : new int[] {-1, 2, LEAST, MOST}) {
+        x.door(2, 1, false, 0, 1);
+        x.tellEnding(2, 3, false, 'i' - 'a');
+        Check.due("couldBe of another declension", x.couldBe(2), 9);
+        for (int bad : new int[] {-1, 3, LEAST, MOST}) {
             Check.throwsDue("door " + bad, OUTSIDE, () -> x.couldBe(bad));
         }
     }
@@ -547,7 +552,9 @@ public final class PromisesTest {
         x.key(1, 2);
         Check.due("the key 3", x.keysFor(0), 8);
         Check.due("the key 2", x.keysFor(1), 4);
-        for (int bad : new int[] {-1, 2, LEAST, MOST}) {
+        x.door(1, 1, false, 2, 3);
+        Check.due("the key 0", x.keysFor(2), 1);
+        for (int bad : new int[] {-1, 3, LEAST, MOST}) {
             Check.throwsDue("door " + bad, OUTSIDE, () -> x.keysFor(bad));
         }
     }
@@ -830,6 +837,24 @@ public final class PromisesTest {
         Check.due("freed", x.account(9), 1);
         Check.due("a full buffer", Check.read(new DoorDialect(),
                 "door0os12;knock0:osO;shut0;knock0:osO;shut0;knock0:osO;sillO"), 7);
+        DoorDialect y = new DoorDialect();
+        Check.due("unlike numbers in an order", Check.read(y, "door0is54;door1gd23;door2os04;sillA;sillO;key2i;key0g"), 7);
+        Check.due("door0is54", Check.lineOf(y, y.line(0)), "isa5-4");
+        Check.due("door1gd23", Check.lineOf(y, y.line(1)), "gdi2-3");
+        Check.due("declensions", y.doorOf(0, 0) + 10 * y.doorOf(1, 0) + 100 * y.doorOf(2, 0), 210);
+        Check.refusedDue("key2i", y, 2, 0, () -> y.key(2, 1));
+        Check.refusedDue("key0g", y, 2, 1, () -> y.key(0, 2));
+        Check.due("orders", Check.read(y, "govern0L;govern1S;set2@0;end2Ls=d;knock2:gdS;knock0:isO"), 6);
+        Check.due("the order shut0", Check.read(y, "shut0"), 1);
+        Check.due("govern0L", y.thresholdOf(0, 0), 3);
+        Check.due("govern1S", y.thresholdOf(1, 0), 1);
+        Check.due("knock2:gdS", Check.lineOf(y, y.line(2)), "osd0-4@0!1");
+        Check.due("shut0", Check.lineOf(y, y.line(0)), "isa5-4");
+        Check.due("more orders", Check.read(y, "knock1:gdO;knock0:isO;shut1;knock2:osO;knock2:osO"), 5);
+        Check.due("shut1", y.account(3), 1);
+        Check.due("knock2", y.doorOf(2, 6), 1);
+        Check.due("one order", Check.read(y, "key2o;free2>2"), 2);
+        Check.due("free2>2", y.account(9), 1);
         Check.due("undo of all of them", x.undo(), 2);
         Check.due("door 0 before", Check.lineOf(x, x.line(0)), "osz1-2@1+");
     }
@@ -999,5 +1024,74 @@ public final class PromisesTest {
         Check.due("the buffer stays", x.account(11), 4);
         Check.due("changes", x.account(12), 0);
         Check.due("an order then", Check.read(x, "0"), 1);
+    }
+
+    /** Doors, thresholds and keys that were undone or cleared leave nothing to those that come after them. */
+    private static void slotsThatAreUsedAgain() {
+        for (int way = 0; way < 3; way++) {
+            DoorDialect x = new DoorDialect();
+            x.snapshot();
+            Check.read(x, "door2gd45;door0os12;door1id03;sillS;set0@0;set1@0");
+            Check.read(x, "key0o;key1i;end0Ss=q;knock1:osS;knock0:osO");
+            Check.read(x, "knock2:osA;knock2:osA;knock2:osA;knock0:osO");
+            if (way == 0) {
+                x.clear();
+            } else if (way == 1) {
+                x.restore();
+            } else {
+                x.undo();
+                x.undo();
+                x.undo();
+            }
+            for (int what = 0; what <= 12; what++) {
+                Check.due("account(" + what + ") of what is gone", x.account(what), what == 10 ? 5 : 0);
+            }
+            x.threshold(3);
+            Check.due("none stands on it", x.thresholdOf(0, 1), 0);
+            Check.due("none is reached", x.reached(1), 2);
+            Check.throwsDue("nor is one best", NOTHING, () -> x.best(1));
+            Check.throwsDue("nor is one ranked", NOTHING, () -> x.ranked(0, 0));
+            for (int door = 0; door < 3; door++) {
+                Check.due("a door then", x.door(door, 1, false, 1, 0), door);
+                int[] due = {door, 1, 0, -1, 0, 0, 0, 0, 1, 0, 0};
+                for (int what = 0; what < due.length; what++) {
+                    Check.due("doorOf(" + door + ", " + what + ") then", x.doorOf(door, what), due[what]);
+                }
+            }
+            Check.due("no keys then", x.keysFor(0), 0);
+            Check.due("a key then", x.key(1, 1), 0);
+            Check.due("it fits", x.keysFor(1), 1);
+        }
+    }
+
+    /** The changes that can be undone go round and round in what holds them. */
+    private static void longPasts() {
+        DoorDialect x = new DoorDialect();
+        x.door(1, 2, true, 3, 4);
+        for (int change = 0; change < 40; change++) {
+            x.tellEnding(1, 1, true, change % 2 == 0 ? change % 13 : 13 + change % 13);
+            for (int undone = 0; change % 5 == 4 && undone < 3; undone++) {
+                x.undo();
+            }
+        }
+        char[] endings = new char[8];
+        int letter = x.ending(1, 1, true) - 'a';
+        while (x.account(12) < 8) {
+            letter = (letter + 7) % 26;
+            x.tellEnding(1, 1, true, letter);
+        }
+        for (int i = 0; i < 20; i++) {
+            endings[i % 8] = x.ending(1, 1, true);
+            letter = (letter + 7) % 26;
+            x.tellEnding(1, 1, true, letter);
+            Check.due("still eight", x.account(12), 8);
+        }
+        for (int i = 19; i >= 12; i--) {
+            Check.due("undo", x.undo(), i - 12);
+            Check.due("the ending before", x.ending(1, 1, true), endings[i % 8]);
+            Check.due("the door", Check.lineOf(x, x.line(0)).substring(0, 2), "gd");
+            Check.due("its declension", x.doorOf(0, 0), 1);
+        }
+        Check.throwsDue("no more", STATE, () -> x.undo());
     }
 }

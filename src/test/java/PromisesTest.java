@@ -1,4 +1,6 @@
+import java.util.List;
 import java.util.NoSuchElementException;
+import java.util.function.Consumer;
 
 /** At least one run for each promise of the document, in its order. */
 public final class PromisesTest {
@@ -859,10 +861,14 @@ public final class PromisesTest {
         Check.due("door 0 before", Check.lineOf(x, x.line(0)), "osz1-2@1+");
     }
 
-    private static void promise35ReadRefused() {
+    private static DoorDialect withDoorAndKey() {
         DoorDialect x = withDoors(0, 1);
         x.key(1, 0);
-        String before = Check.all(x);
+        return x;
+    }
+
+    private static void promise35ReadRefused() {
+        String before = Check.all(withDoorAndKey());
         Object[][] refused = {
             {"sillO;sillO;sillO;sillO;sillO;sillO;sillO", 6, 1, 6},
             {"knock0:osO;shut0;shut0", 2, 5, 0},
@@ -876,6 +882,7 @@ public final class PromisesTest {
             {"end0Os=b;end0Os=b", 1, 2, 1},
         };
         for (Object[] row : refused) {
+            DoorDialect x = withDoorAndKey();
             String text = (String) row[0];
             Check.refusedDue(text, x, (Integer) row[2], (Integer) row[3], () -> Check.read(x, text));
             Check.due(text + ": refusedItem", x.refusedItem(), row[1]);
@@ -884,10 +891,13 @@ public final class PromisesTest {
         String[] thrown = {"door3os12", "door0os11", "door0os16", "door0os61", "shut1", "shut9", "govern0O",
             "set1@-", "set0@0", "end3Os=a", "key9o", "knock8:osO", "free1>0", "free0>7", "sillO;set0@1"};
         for (String text : thrown) {
-            Check.refusedDue(text, x, 2, 1, () -> Check.read(x, text));
+            DoorDialect x = withDoorAndKey();
+            Check.refusedDue("a key again", x, 2, 0, () -> x.key(1, 0));
+            Check.refusedDue(text, x, 2, 0, () -> Check.read(x, text));
             Check.due(text + ": refusedItem", x.refusedItem(), text.startsWith("sill") ? 1 : 0);
             Check.due(text + ": nothing is changed", Check.all(x), before);
         }
+        DoorDialect x = withDoorAndKey();
         for (int i = 0; i < 8; i++) {
             x.threshold(0);
             x.undo();
@@ -901,8 +911,7 @@ public final class PromisesTest {
     }
 
     private static void promise36ErrorPosition() {
-        DoorDialect x = withDoors(0, 1);
-        String before = Check.all(x);
+        String before = Check.all(withDoors(0, 1));
         Object[][] malformed = {
             {"", 0}, {"x", 0}, {";", 0}, {" sillO", 0}, {"D", 0}, {"d", 1}, {"doxr", 2}, {"door", 4},
             {"dooro", 4}, {"door-", 4}, {"door0x", 5}, {"door0O", 5}, {"door0oo", 6}, {"door0os", 7},
@@ -920,18 +929,21 @@ public final class PromisesTest {
             {"sillO;sillO;sillO;sillO;sillO;sillO;sillO;sillO;sillO;sill;O", 58},
         };
         for (Object[] row : malformed) {
+            DoorDialect x = withDoors(0, 1);
             String text = (String) row[0];
             Check.throwsDue("\"" + text + "\"", ILLEGAL, () -> Check.read(x, text));
             Check.due("\"" + text + "\": errorPosition", x.errorPosition(), row[1]);
             Check.due("\"" + text + "\": nothing is changed", Check.all(x), before);
         }
+        DoorDialect x = withDoors(0, 1);
+        Check.throwsDue("malformed", ILLEGAL, () -> Check.read(x, "shut0;shut"));
         Check.throwsDue("refused later", REFUSED, () -> Check.read(x, "shut0"));
         Check.read(x, "sillO");
         x.undo();
         x.snapshot();
         x.restore();
         x.clear();
-        Check.due("it stays", x.errorPosition(), 58);
+        Check.due("it stays", x.errorPosition(), 10);
     }
 
     private static void promise37RefusedItem() {
@@ -952,31 +964,46 @@ public final class PromisesTest {
     }
 
     private static void promise38Undo() {
-        DoorDialect x = new DoorDialect();
+        List<Consumer<DoorDialect>> changes = List.of(
+            x -> x.door(0, 0, false, 0, 1), x -> x.threshold(1), x -> x.govern(0, 2), x -> x.set(0, 0),
+            x -> x.tellEnding(0, 2, false, 25), x -> x.key(0, 0), x -> x.knock(0, 0, false, 2),
+            x -> x.shut(0), x -> Check.read(x, "knock0:isA;knock0:isA;knock0:isA"), x -> x.free(0, 0),
+            x -> x.knock(0, 1, true, 1));
+        for (int made = 0; made <= changes.size(); made++) {
+            DoorDialect all = changed(changes, made);
+            Check.due("changes that can be undone", all.account(12), Math.min(made, 8));
+            for (int left = made - 1; left >= 0 && left >= made - 8; left--) {
+                Check.due("undo", all.undo(), Math.min(made, 8) - made + left);
+            }
+            Check.throwsDue("only eight", STATE, () -> all.undo());
+            for (int undone = 1; undone <= Math.min(made, 8); undone++) {
+                DoorDialect x = changed(changes, made);
+                for (int i = 0; i < undone; i++) {
+                    x.undo();
+                }
+                Check.due(made + " changes, and " + undone + " undone", withoutChanges(x),
+                        withoutChanges(changed(changes, made - undone)));
+            }
+        }
+        DoorDialect x = changed(changes, 3);
+        x.undo();
+        x.undo();
+        x.undo();
         Check.throwsDue("nothing to undo", STATE, () -> x.undo());
-        String[] before = new String[12];
-        Runnable[] changes = {
-            () -> x.door(0, 0, false, 0, 1), () -> x.threshold(1), () -> x.govern(0, 2), () -> x.set(0, 0),
-            () -> x.tellEnding(0, 2, false, 25), () -> x.key(0, 0), () -> x.knock(0, 0, false, 2),
-            () -> x.shut(0), () -> Check.read(x, "knock0:isA;knock0:isA;knock0:isA"), () -> x.free(0, 0),
-            () -> x.knock(0, 1, true, 1),
-        };
-        for (int i = 0; i < changes.length; i++) {
-            before[i] = withoutChanges(x);
-            changes[i].run();
-            Check.due("changes that can be undone", x.account(12), Math.min(i + 1, 8));
-        }
-        for (int i = 7; i >= 0; i--) {
-            Check.due("undo", x.undo(), i);
-            Check.due("before the change " + (i + 3), withoutChanges(x), before[i + 3]);
-        }
-        Check.throwsDue("only eight", STATE, () -> x.undo());
-        x.set(0, 0);
+        x.threshold(0);
         Check.due("a new change after undo", x.account(12), 1);
-        Check.throwsDue("a refused change", REFUSED, () -> x.set(0, 0));
+        Check.throwsDue("a refused change", REFUSED, () -> x.govern(0, 0));
         x.snapshot();
-        x.line(0);
+        x.endings(0);
         Check.due("is none, nor is a snapshot or a line", x.undo(), 0);
+    }
+
+    private static DoorDialect changed(List<Consumer<DoorDialect>> changes, int made) {
+        DoorDialect x = new DoorDialect();
+        for (Consumer<DoorDialect> change : changes.subList(0, made)) {
+            change.accept(x);
+        }
+        return x;
     }
 
     private static String withoutChanges(DoorDialect x) {

@@ -78,9 +78,10 @@ final class BoundariesOfInput {
                 doorOf(0, {0, 1, 2, 8, 9}) = 0, 0, 0, 0, 5
                 read "door2gd50" = 1
                 doorOf(1, {0, 1, 2, 8, 9}) = 2, 2, 1, 5, 0
-                read "door1is34;door0od12" = 2
-                doorOf(2, {0, 1, 2, 8, 9}) = 1, 1, 0, 3, 4
-                doorOf(3, {0, 1, 2, 8, 9}) = 0, 0, 1, 1, 2
+                read "door1gs34;door0id12;door2os21" = 3
+                doorOf(2, {0, 1, 2, 8, 9}) = 1, 2, 0, 3, 4
+                doorOf(3, {0, 1, 2, 8, 9}) = 0, 1, 1, 1, 2
+                doorOf(4, {0, 1, 2, 8, 9}) = 2, 0, 0, 2, 1
                 // None, one without an end, one before the first and one behind the last.
                 read "" ! IllegalArgumentException at 0
                 read ";" ";door0os12" ! IllegalArgumentException at 0
@@ -97,6 +98,9 @@ final class BoundariesOfInput {
                 read "sillO" "sillS" "sillA" "sillL" = 1
                 account(1) = 4
                 thresholdOf({0..3}, 0) = 0..3
+                door(0, 0, false, 0, 1) = 0
+                read "set0@3;set0@-;sillA" = 3
+                thresholdOf(4, 0) = 2
                 read "sill" "sillo" "sills" "sill0" "sillX" ! IllegalArgumentException at 4
                 """);
         Runs.holds(TERMS, "\"govern\", a threshold and the letter of a case", """
@@ -113,7 +117,8 @@ final class BoundariesOfInput {
                 6 * threshold(1) = 0..5
                 read "set0@0" "set7@5" "set1@4;set1@-" = 1, 1, 2
                 doorOf({0..7}, 3) = 0, -1, -1, -1, -1, -1, -1, 5
-                read "set0@-" = 1
+                read "set0@-;shut9" ! UnsupportedOperationException order 1
+                read "set0@-;end0Os=z" = 2
                 doorOf(0, 3) = -1
                 read "set0@-" ! UnsupportedOperationException order 0 refusal 2 -1
                 read "set8@0" "set0@6" "set9@9" "set8@-" ! UnsupportedOperationException order 0
@@ -130,15 +135,19 @@ final class BoundariesOfInput {
                 endings(2) = "iueo/oaia"
                 read "end3Os=a" ! UnsupportedOperationException order 0
                 read "end0Os=a" ! UnsupportedOperationException order 0 refusal 2 0
+                read "end0Ss=i" ! UnsupportedOperationException order 0 refusal 2 8
+                read "end1Ls=i" ! UnsupportedOperationException order 0 refusal 2 8
+                read "end2Od=o" ! UnsupportedOperationException order 0 refusal 2 14
                 read "end0Os=A" "end0Os=`" "end0Os={" "end0Os=1" ! IllegalArgumentException at 7
                 """);
         Runs.holds(TERMS, "\"key\", a declension and the letter of a gender", """
                 door({0, 1, 2}, {0, 1}, false, 0, 1) = 0..5
                 door({0, 2}, 2, false, 0, 1) = 6, 7
-                read "key0o" "key2g" "key1i" = 1
-                keysFor({0..7}) = 1, 0, 0, 4, 0, 0, 0, 2
+                read "key0o" "key2g" "key1i" "key0g" "key2o" = 1
+                keysFor({0..7}) = 1, 0, 0, 4, 16, 0, 8, 2
                 read "key3o" "key9g" ! UnsupportedOperationException order 0
                 read "key2g" ! UnsupportedOperationException order 0 refusal 2 1
+                read "key0g" ! UnsupportedOperationException order 0 refusal 2 3
                 read "key0s" "key0O" "key0G" "key00" ! IllegalArgumentException at 4
                 """);
     }
@@ -170,7 +179,7 @@ final class BoundariesOfInput {
                 key({0, 1}, {0, 1}) = 0..3
                 key(2, 2) = 4
                 read "free5>7" "free4>8" "free9>9" ! UnsupportedOperationException order 0
-                read "free0>7" "free3>1" ! UnsupportedOperationException order 0 refusal 7 0
+                read "free0>7" "free3>1" "free1>1" ! UnsupportedOperationException order 0 refusal 7 0
                 read "free0>0" ! UnsupportedOperationException order 0 refusal 6 0
                 read "free4>7" = 1
                 doorOf({0..7}, 6) = 0, 1, 0, 0, 0, 0, 0, 0

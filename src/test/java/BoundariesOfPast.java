@@ -239,6 +239,64 @@ final class BoundariesOfPast {
                 thresholdOf(5, {0, 1}) = 0
                 keysFor({0..7}) = 0
                 """);
+        // Others that came in their places meanwhile leave nothing of theirs.
+        Runs.holds("Promise 40", "Restores all that from the snapshot", """
+                door(0, 1, false, 2, 3) = 0
+                door(2, 0, true, 5, 4) = 1
+                key(0, 1) = 0
+                key(2, 0) = 1
+                threshold({3, 1}) = 0, 1
+                set(1, 0) = 3
+                snapshot() = 2
+                clear() = 2
+                8 * door(1, 2, true, 0, 1) = 0..7
+                key(1, {0, 1, 2}) = 0, 1, 2
+                threshold({0, 2, 1}) = 0, 1, 2
+                set({0, 1}, 2) = 1
+                knock({0, 1}, 2, true, 1) = 3
+                tellEnding({0, 2}, {0, 3}, {false, true}, 25) = 0, 4, 4, 8, 8, 14, 14, 20
+                restore() = 2
+                doorOf(0, {0..10}) = 0, 1, 0, -1, 0, 0, 0, 0, 2, 3, 0
+                doorOf(1, {0..10}) = 2, 0, 1, 0, 3, 0, 0, 0, 5, 4, 0
+                doorOf(2, 0) ! IndexOutOfBoundsException
+                keysFor({0, 1}) = 1, 2
+                key(0, 1) ! UnsupportedOperationException 2 0
+                key(2, 0) ! UnsupportedOperationException 2 1
+                key(1, 0) = 2
+                thresholdOf({0, 1}, 0) = 3, 1
+                thresholdOf(2, 0) ! IndexOutOfBoundsException
+                line(0) = "isa2-3"
+                line(1) = "odu5-4@0"
+                """);
+        // A full house in place of another full one, to the last door, threshold and key.
+        Runs.holds("Promise 40", "Restores all that from the snapshot", """
+                7 * door(0, 0, false, 0, 1) = 0..6
+                door(2, 1, true, 5, 4) = 7
+                5 * threshold(0) = 0..4
+                threshold(3) = 5
+                key(0, {0, 1, 2}) = 0, 1, 2
+                key(1, 0) = 3
+                key(2, 1) = 4
+                set(7, 5) = 3
+                3 * knock(7, 0, false, 0) = 0
+                snapshot() = 8
+                clear() = 8
+                8 * door(1, 2, false, 2, 3) = 0..7
+                6 * threshold(1) = 0..5
+                key(1, {0, 1, 2}) = 0, 1, 2
+                key(2, 2) = 3
+                key(0, 2) = 4
+                knock(7, 2, false, 0) = 3
+                restore() = 8
+                line(7) = "idu5-4@5!3"
+                doorOf(7, {0..10}) = 2, 1, 1, 5, 3, 3, 1, 0, 5, 4, 3
+                thresholdOf({0..5}, 0) = 0, 0, 0, 0, 0, 3
+                thresholdOf({0..5}, 1) = 0, 0, 0, 0, 0, 1
+                keysFor({0..7}) = 1, 1, 1, 1, 1, 1, 1, 16
+                key(2, 1) ! UnsupportedOperationException 2 4
+                key(2, 2) ! UnsupportedOperationException 1 5
+                free(4, 7) = 0
+                """);
         Runs.holds("Promise 40", "After that no changes can be undone.", """
                 tellEnding(0, 0, false, {1..8}) = 0..7
                 snapshot() = 0

@@ -296,7 +296,6 @@ final class Runs {
         if (WRITING.contains(step.name) && !step.isThrown()) {
             open.add("line");
         }
-        // The texts of an append that is refused are appended up to the refused one.
         return open;
     }
 

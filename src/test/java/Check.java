@@ -1,14 +1,17 @@
 import java.util.function.Supplier;
 
-/** What the tests share: answers that are due, exceptions that are due, and texts for the input buffer. */
-final class Check {
+/**
+ * What the tests share: answers that are due, exceptions that are due, and texts for the input buffer. Public, since
+ * the calls of README.md are loaded by a loader of their own.
+ */
+public final class Check {
     private static int wrong = 0;
     private static int done = 0;
 
     private Check() {
     }
 
-    static void due(String call, Object got, Object want) {
+    public static void due(String call, Object got, Object want) {
         done++;
         if (!got.equals(want)) {
             wrong++;
@@ -17,7 +20,7 @@ final class Check {
     }
 
     /** The very class of the exception is asked for: the machine's own subclasses are not the due ones. */
-    static void throwsDue(String call, Class<? extends RuntimeException> want, Supplier<Object> made) {
+    public static void throwsDue(String call, Class<? extends RuntimeException> want, Supplier<Object> made) {
         done++;
         String got;
         try {
@@ -53,7 +56,7 @@ final class Check {
         return x.read();
     }
 
-    static String lineOf(DoorDialect x, int length) {
+    public static String lineOf(DoorDialect x, int length) {
         StringBuilder text = new StringBuilder();
         for (int i = 0; i < length; i++) {
             text.append(x.character(i));
